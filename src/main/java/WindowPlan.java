@@ -538,11 +538,12 @@ public final class WindowPlan {
             return stage == WAITING && program.orders[next] == order && program.numbers[next] == number;
         }
 
+        // Null is the best so far of a search that has found none yet.
         boolean comesBefore(Task other) {
-            if (other == null || priority != other.priority) {
-                return other == null || priority > other.priority;
+            if (other == null) {
+                return true;
             }
-            return since < other.since;
+            return priority == other.priority ? since < other.since : priority > other.priority;
         }
 
         int tell(int what) {

@@ -5,6 +5,7 @@ final class SemaphoreTest {
         atMostNine();
         downTakesOne();
         firstByRankGoesOn();
+        waitingCountsFromItsBegin();
         stoppedOnesWaitNoMore();
         Check.end();
     }
@@ -90,6 +91,27 @@ final class SemaphoreTest {
         plan.start(6);
         plan.run(1);
         Check.due("none waits there", plan.semaphore(0), 1);
+    }
+
+    /** The first was READY before the second, but its window comes later: it begins to wait later. */
+    private static void waitingCountsFromItsBegin() {
+        WindowPlan plan = new WindowPlan();
+        plan.window(1, 1);
+        plan.window(0, 1);
+        Check.made(plan, 0, 5, 0, 0, 4, 2);
+        Check.made(plan, 1, 5, 0, 0, 4, 2);
+        Check.made(plan, 0, 0, 0, 0, 3, 2);
+        plan.on(0);
+        plan.on(1);
+        plan.start(0);
+        plan.start(1);
+        plan.start(2);
+        plan.run(2);
+        Check.due("waits on", plan.state(0, 0), WindowPlan.WAITING);
+        Check.due("goes on", plan.state(1, 0), WindowPlan.RESTING);
+        plan.start(2);
+        plan.run(2);
+        Check.due("then the other", plan.state(0, 0), WindowPlan.RESTING);
     }
 
     private static void stoppedOnesWaitNoMore() {
