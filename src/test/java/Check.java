@@ -2,15 +2,21 @@
 final class Check {
     private static int wrong = 0;
     private static int looked = 0;
+    private static String told = "";
 
     private Check() {
     }
 
+    /** The promise and the words of the document that the answers from now on belong to. */
+    static void promise(int number, String words) {
+        told = "promise " + number + ", \"" + words + "\": ";
+    }
+
     static void due(String what, long got, long want) {
-        looked++;
-        if (got != want) {
-            wrong++;
-            System.out.println(what + ": answered " + got + ", due is " + want);
+        if (got == want) {
+            looked++;
+        } else {
+            due(what, Long.toString(got), Long.toString(want));
         }
     }
 
@@ -18,7 +24,7 @@ final class Check {
         looked++;
         if (!got.equals(want)) {
             wrong++;
-            System.out.println(what + ": answered " + got + ", due is " + want);
+            System.out.println(told + what + ": answered " + got + ", due is " + want);
         }
     }
 
