@@ -29,11 +29,13 @@ final class TickBoundaryTest {
         missedOnce();
         missedWhileWaiting();
         againAtItsFirstOrder();
+        againInTheMiddleOfWork();
         stopRestsAll();
         stopEndsTheSearchInItsPartition();
 
         equalPriorityLeastNumberFirst();
         priorityZeroAndNine();
+        equalPriorityReadyForLongerFirst();
         longLife();
         Check.end();
     }
@@ -376,6 +378,18 @@ final class TickBoundaryTest {
         Check.due("each message was taken", plan.port(1), 0);
     }
 
+    private static void againInTheMiddleOfWork() {
+        Check.promise(8, "AGAIN: it is READY at its first order, from now (in the middle of that order)");
+        WindowPlan plan = workWithLimit(20, 19);
+        plan.action(0, 1);
+        plan.run(19);
+        Check.due("one tick before it would be over", Check.process(plan, 0), "1 0 19 1 19 0 0 19 0 -1");
+        plan.run(1);
+        Check.due("the first tick anew", Check.process(plan, 0), "1 0 1 1 -1 1 0 20 0 -1");
+        plan.run(19);
+        Check.due("over by twenty ticks more", Check.process(plan, 0), "0 0 0 1 -1 1 0 39 0 -1");
+    }
+
     private static void stopRestsAll() {
         Check.promise(8, "STOP: the partition is STOPPED: all its processes are RESTING, without DEADLINES");
         WindowPlan plan = new WindowPlan();
@@ -448,6 +462,30 @@ final class TickBoundaryTest {
         Check.due("the higher one, though READY for shorter", plan.state(1, 7), 2);
         plan.run(10);
         Check.due("the lower one goes on", plan.state(0, 7), 20);
+    }
+
+    private static void equalPriorityReadyForLongerFirst() {
+        Check.promise(8, "RANK: then the one that has been READY for longer: that began so first");
+        WindowPlan plan = new WindowPlan();
+        plan.window(1, 3);
+        plan.window(0, 10);
+        Check.made(plan, 0, 5, 0, 0, 0, 2);
+        Check.made(plan, 0, 5, 0, 0, 0, 2);
+        Check.made(plan, 0, 5, 0, 0, 0, 2);
+        plan.on(0);
+        int[] started = {1, 2, 0};
+        for (int process : started) {
+            plan.start(process);
+            plan.run(1);
+        }
+        for (int process : started) {
+            plan.run(2);
+            Check.due("process " + process + ", in the order of their begin", plan.state(process, 7), 2);
+        }
+        plan.start(0);
+        plan.start(2);
+        plan.run(1);
+        Check.due("a new round has a new begin", plan.state(0, 7), 3);
     }
 
     /** As much time as 512 calls can bring: nothing wraps around. */
