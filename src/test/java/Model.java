@@ -8,6 +8,11 @@ import java.util.List;
  * in the order in which they came, so that RANK is the first of the highest priority in a queue.
  */
 final class Model {
+    /** The methods of the document's face, in its order. */
+    static final String[] NAMES = {
+        "window", "process", "order", "action", "on", "start", "run", "partition", "state", "port", "semaphore", "count",
+    };
+
     private static final class P {
         int number;
         int partition;

@@ -2,10 +2,6 @@ import java.util.Random;
 
 /** Many runs of calls, drawn with fixed seeds, whose answers must be those of the second reading in Model. */
 final class ModelTest {
-    private static final String[] NAMES = {
-        "window", "process", "order", "action", "on", "start", "run", "partition", "state", "port", "semaphore", "count",
-    };
-
     private final Random random;
     private final WindowPlan plan = new WindowPlan();
     private final Model model = new Model();
@@ -40,7 +36,7 @@ final class ModelTest {
             return;
         }
         calls++;
-        String text = NAMES[method] + "(" + a + ", " + b + ", " + c + ", " + d + ")";
+        String text = Model.NAMES[method] + "(" + a + ", " + b + ", " + c + ", " + d + ")";
         told.append("  ").append(text).append('\n');
         Check.due("call " + calls + " " + text, Model.call(plan, method, a, b, c, d), model.call(method, a, b, c, d));
         if (!Check.allRight()) {
@@ -94,7 +90,7 @@ final class ModelTest {
     }
 
     private void any() {
-        call(random.nextInt(NAMES.length), number(), number(), number(), number());
+        call(random.nextInt(Model.NAMES.length), number(), number(), number(), number());
     }
 
     private int number() {
@@ -103,7 +99,7 @@ final class ModelTest {
 
     private void lookAtAll() {
         for (int a = -1; a <= 8; a++) {
-            for (int method = 7; method < NAMES.length; method++) {
+            for (int method = 7; method < Model.NAMES.length; method++) {
                 for (int b = method == 8 ? -1 : 10; b <= 10; b++) {
                     call(method, a, b, 0, 0);
                 }
